@@ -10,9 +10,11 @@ public final class PromisesTest {
     private static final int FAILED = 2;
     private static final int DONE = 3;
     private static final int BROKEN = 4;
-    private static final int NONE = CleanRuns.NONE;
-    private static final int FULL = CleanRuns.FULL;
+    private static final int NONE = -1;
+    private static final int FULL = -2;
     private static final int[] WRONG = {-1, 1, 30, 31, Integer.MIN_VALUE, Integer.MAX_VALUE};
+
+    private static final double TINY = Double.MIN_VALUE;
 
     private static int wrong = 0;
 
@@ -184,10 +186,10 @@ public final class PromisesTest {
         for (int seconds : new int[] {0, -1, 3601, Integer.MIN_VALUE, Integer.MAX_VALUE}) {
             due("step of seconds " + seconds, x.step(0, RINSE, seconds, 1.0, 1.0), false);
         }
-        for (double strength : new double[] {-0.125, 100.125, -1e300, 1.0 / 0.0, -1.0 / 0.0, Double.NaN}) {
+        for (double strength : new double[] {-TINY, Math.nextUp(100.0), -1e300, 1.0 / 0.0, -1.0 / 0.0, Double.NaN}) {
             due("step of strength " + strength, x.step(0, RINSE, 1, strength, 1.0), false);
         }
-        for (double degrees : new double[] {-0.125, 150.125, -1e300, 1.0 / 0.0, -1.0 / 0.0, Double.NaN}) {
+        for (double degrees : new double[] {-TINY, Math.nextUp(150.0), -1e300, 1.0 / 0.0, -1.0 / 0.0, Double.NaN}) {
             due("step of degrees " + degrees, x.step(0, RINSE, 1, 1.0, degrees), false);
         }
         due("start behind refused steps", x.start(0, 1), NONE);
@@ -247,11 +249,12 @@ public final class PromisesTest {
         for (int run : WRONG) {
             due("tick of run " + run, x.tick(run, 1.0, 1.0, 1.0), NONE);
         }
-        for (double much : new double[] {-0.125, 1000.125, 1.0 / 0.0, -1.0 / 0.0, Double.NaN}) {
+        for (double much : new double[] {-TINY, Math.nextUp(1000.0), 1.0 / 0.0, -1.0 / 0.0, Double.NaN}) {
             due("tick with strength " + much, x.tick(0, much, 1.0, 1.0), NONE);
             due("tick with flow " + much, x.tick(0, 1.0, 1.0, much), NONE);
         }
-        for (double degrees : new double[] {-50.125, 200.125, 1.0 / 0.0, -1.0 / 0.0, Double.NaN}) {
+        double[] wrongDegrees = {Math.nextDown(-50.0), Math.nextUp(200.0), 1.0 / 0.0, -1.0 / 0.0, Double.NaN};
+        for (double degrees : wrongDegrees) {
             due("tick with degrees " + degrees, x.tick(0, 1.0, degrees, 1.0), NONE);
         }
         due("counted behind refused ticks", x.counted(0), 0);
@@ -290,8 +293,8 @@ public final class PromisesTest {
         CleanRuns x = runOfOne(RINSE, 5.0, 90.0);
         dueToHold(x, true, 5.0, 20.0, 1.0);
         dueToHold(x, true, 0.0, -50.0, 1000.0);
-        dueToHold(x, false, 5.125, 90.0, 1.0);
-        dueToHold(x, false, 5.0, 90.0, 0.875);
+        dueToHold(x, false, Math.nextUp(5.0), 90.0, 1.0);
+        dueToHold(x, false, 5.0, 90.0, Math.nextDown(1.0));
     }
 
     private static void causticAndAcidHold() {
@@ -299,9 +302,9 @@ public final class PromisesTest {
             CleanRuns x = runOfOne(kind, 2.0, 70.0);
             dueToHold(x, true, 2.0, 70.0, 1.0);
             dueToHold(x, true, 1000.0, 200.0, 1000.0);
-            dueToHold(x, false, 1.875, 70.0, 1.0);
-            dueToHold(x, false, 2.0, 69.875, 1.0);
-            dueToHold(x, false, 2.0, 70.0, 0.875);
+            dueToHold(x, false, Math.nextDown(2.0), 70.0, 1.0);
+            dueToHold(x, false, 2.0, Math.nextDown(70.0), 1.0);
+            dueToHold(x, false, 2.0, 70.0, Math.nextDown(1.0));
         }
     }
 
@@ -309,15 +312,15 @@ public final class PromisesTest {
         CleanRuns x = runOfOne(STERILE, 50.0, 120.0);
         dueToHold(x, true, 0.0, 120.0, 0.5);
         dueToHold(x, true, 1000.0, 200.0, 1000.0);
-        dueToHold(x, false, 50.0, 119.875, 0.5);
-        dueToHold(x, false, 50.0, 120.0, 0.375);
+        dueToHold(x, false, 50.0, Math.nextDown(120.0), 0.5);
+        dueToHold(x, false, 50.0, 120.0, Math.nextDown(0.5));
     }
 
     private static void drainHolds() {
         CleanRuns x = runOfOne(DRAIN, 50.0, 50.0);
         dueToHold(x, true, 0.0, 0.0, 0.125);
         dueToHold(x, true, 1000.0, 200.0, 0.0);
-        dueToHold(x, false, 50.0, 50.0, 0.25);
+        dueToHold(x, false, 50.0, 50.0, Math.nextUp(0.125));
     }
 
     private static void missesInARow() {
@@ -540,7 +543,8 @@ public final class PromisesTest {
             CleanRuns x = runOf(CAUSTIC, kind, CAUSTIC);
             x.interface2(0, 3.0, 1);
             due("kind " + kind + " waits", x.tick(0, 1.0, 0.0, 1.0), WAITING);
-            due("kind " + kind + " goes on waiting", x.tick(0, down ? 3.125 : 2.875, 0.0, 1.0), WAITING);
+            double beyond = down ? Math.nextUp(3.0) : Math.nextDown(3.0);
+            due("kind " + kind + " goes on waiting", x.tick(0, beyond, 0.0, 1.0), WAITING);
             due("kind " + kind + " counts", x.tick(0, 3.0, 0.0, 0.25), COUNTING);
             due("kind " + kind + " ends", x.tick(0, 1.0, 0.0, kind == DRAIN ? 0.0 : 1.0), WAITING);
         }
@@ -581,7 +585,7 @@ public final class PromisesTest {
         for (int run : WRONG) {
             due("interface2 of run " + run, x.interface2(run, 1.0, 1), false);
         }
-        for (double at : new double[] {-0.125, 100.125, 1.0 / 0.0, -1.0 / 0.0, Double.NaN}) {
+        for (double at : new double[] {-TINY, Math.nextUp(100.0), 1.0 / 0.0, -1.0 / 0.0, Double.NaN}) {
             due("interface2 at " + at, x.interface2(0, at, 1), false);
         }
         for (int hold : new int[] {0, -1, 601, Integer.MIN_VALUE, Integer.MAX_VALUE}) {
